@@ -594,6 +594,11 @@ public final class AheadOfAFriend {
             return place >= 0 && place < length && place < PEOPLE ? line[place] : NONE;
         }
 
+        /** Whether one would be SERVED at a place, so that nobody changes places with that one. */
+        boolean isHeld(int place, int one) {
+            return place == 0 && of(served, one) > 0;
+        }
+
         int placeOf(int one) {
             for (int p = 0; p < length && p < PEOPLE; p++) {
                 if (line[p] == one) {
@@ -603,8 +608,9 @@ public final class AheadOfAFriend {
             return NONE;
         }
 
-        boolean isFriend(int one, int other) {
-            return one >= 0 && one < size && one < PEOPLE && (likes[one] >> other & 1) == 1;
+        /** 1, if one LIKES another one, else 0. */
+        int likes(int one, int other) {
+            return one >= 0 && one < size && one < PEOPLE ? likes[one] >> other & 1 : 0;
         }
 
         int likersOf(int one) {
@@ -619,7 +625,8 @@ public final class AheadOfAFriend {
             int z = seed;
             for (int one = 0; one < size && one < PEOPLE; one++) {
                 z = z * 1103515245 + 12345;
-                likes[one] = (z >>> 9) % 32 & ~(1 << one) & (1 << size) - 1;
+                int others = (1 << size) - 1 & ~(1 << one);
+                likes[one] = (z >>> 9) % 32 & others;
             }
         }
     }
@@ -655,7 +662,7 @@ public final class AheadOfAFriend {
             boolean noGifts = land.of(land.gifts, other) == 0;
             switch (land.of(land.kind, one)) {
                 case WIDOW:
-                    return yes && !land.isFriend(one, other);
+                    return yes && land.likes(one, other) == 0;
                 case CLERK:
                     return yes || noGifts;
                 case BRIDE:
@@ -718,8 +725,7 @@ public final class AheadOfAFriend {
                 return false;
             }
             int before = land.at(place - 1);
-            boolean atCounter = place == 1 && land.of(land.served, before) > 0;
-            return !atCounter && !minds(land, before, land.at(place));
+            return !land.isHeld(place - 1, before) && !minds(land, before, land.at(place));
         }
 
         int hasten(Land land) {
@@ -885,7 +891,7 @@ public final class AheadOfAFriend {
         private static int nameWorth(int name, boolean ofMinds, Land land, int one, int other) {
             switch (name) {
                 case LIKED:
-                    return ofMinds ? land.isFriend(one, other) ? 1 : 0 : land.likersOf(one);
+                    return ofMinds ? land.likes(one, other) : land.likersOf(one);
                 case OWN_NUMBER:
                     return land.of(land.number, one);
                 case THEIRS:
@@ -1240,7 +1246,7 @@ public final class AheadOfAFriend {
             for (int p = 1; p < length; p++) {
                 int before = now[p - 1];
                 int one = now[p];
-                if (p == 1 && land.of(land.served, before) > 0 || minds(before, one)) {
+                if (land.isHeld(p - 1, before) || minds(before, one)) {
                     continue;
                 }
                 passed |= 1 << before;

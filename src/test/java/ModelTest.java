@@ -148,7 +148,6 @@ public final class ModelTest {
     }
 
     private void fewestSome() {
-        StringBuilder b = new StringBuilder();
         java.util.List<Integer> line = new java.util.ArrayList<>();
         for (int p = 0; p < 5; p++) {
             if (x.first(p) >= 0) {
@@ -158,7 +157,7 @@ public final class ModelTest {
         calls += 10;
         java.util.Collections.shuffle(line, random);
         int digits = Model.digits(line) + (random.nextInt(20) == 0 ? some(100000) : 0);
-        same(b + "fewest(" + digits + ")", x.fewest(digits), m.fewest(digits));
+        same("fewest(" + digits + ")", x.fewest(digits), m.fewest(digits));
     }
 
     private void runSome() {

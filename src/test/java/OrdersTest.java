@@ -115,6 +115,11 @@ public final class OrdersTest {
         // 1 lets 2 pass too: the best is the same one.
         x.set(2, 1, 4);
         all(c, x, 6, 27, 231, 14, 2, 4, 0);
+        AheadOfAFriend v = new AheadOfAFriend();
+        v.person(0, 1);
+        v.person(0, 0);
+        v.set(2, 0, 2);
+        all(c, v, 2, 4, 21, 3, 1, 2, 0);
         // Of like ones that of fewest passings, not that of least digits.
         AheadOfAFriend y = citizens(6, 5, 3);
         y.pass(2);
@@ -150,6 +155,10 @@ public final class OrdersTest {
         x.set(2, 3, 1);
         c.due("3 lets 0 pass back", x.orders(5), 0);
         c.due("rings", x.orders(6), 1);
+        for (int i = 0; i < 4; i++) {
+            x.set(2, i, 0);
+        }
+        c.due("nobody is passed any more", x.orders(5), 15);
         AheadOfAFriend y = new AheadOfAFriend();
         y.person(5, 0);
         y.person(0, 0);

@@ -75,6 +75,13 @@ public final class TextsTest {
         fault(c, "minds notliked;", 6);
         fault(c, "minds likedd;", 6);
         fault(c, "minds like;", 6);
+        fault(c, "minds likedz;", 6);
+        fault(c, "minds not foo;", 10);
+        fault(c, "minds -foo;", 7);
+        fault(c, "minds (foo);", 7);
+        fault(c, "minds 1;lasts 1;irks 1;#", 23);
+        fault(c, "minds 1;lasts 1;irks 1;foo", 23);
+        fault(c, "minds 1;lasts 1;irks 1; 12345", 24);
         fault(c, "minds1;lasts1;irks1;", -1);
         fault(c, "mindsliked;", 0);
         fault(c, "Minds 1;", 0);
@@ -168,6 +175,7 @@ public final class TextsTest {
     private static void lasts(Check c, String e, int want) {
         AheadOfAFriend x = new AheadOfAFriend();
         x.person(0, 7);
+        x.set(4, 0, 3);
         c.due("text", Check.textOf(x, "minds 0;lasts " + e + ";irks 0;"), 1);
         x.force(1);
         c.due(e, x.told(0, 7), want);
@@ -193,6 +201,8 @@ public final class TextsTest {
         lasts(c, "10+(-1<0)", 11);
         lasts(c, "10+(7 and 8)", 11);
         lasts(c, "10+(7 and 0)", 10);
+        lasts(c, "10+(1 and 1)", 11);
+        lasts(c, "10+(0 and 1)", 10);
         lasts(c, "10+(0 or -5)", 11);
         lasts(c, "10+(0 or 0)", 10);
         lasts(c, "10+(not 7)", 10);
@@ -214,6 +224,24 @@ public final class TextsTest {
         lasts(c, "9999*9999*22", 1);
         lasts(c, "9999", 40);
         lasts(c, "0", 1);
+        lasts(c, "0+6", 6);
+        lasts(c, "errand", 3);
+        afterFault(c);
+    }
+
+    /** What was read of a long TEXT with a FAULT takes no room from the next one. */
+    private static void afterFault(Check c) {
+        AheadOfAFriend x = new AheadOfAFriend();
+        StringBuilder b = new StringBuilder("minds 1");
+        while (b.length() < 159) {
+            b.append("+1");
+        }
+        c.due("a long one", Check.textOf(x, b.toString()), -100 - b.length());
+        c.due("another", Check.textOf(x, "minds 1+1+1+1+1+1+1+1;lasts 1+1+1+1+1+1+1+1;irks 1+1+1+1+1+1+1+1;"), 1);
+        x.force(1);
+        x.person(0, 0);
+        c.due("lasts", x.told(0, 7), 8);
+        c.due("irks", x.told(0, 8), 8);
     }
 
     private static void names(Check c) {

@@ -151,8 +151,11 @@ public final class ToldTest {
     private static AheadOfAFriend laid(int people, int seed) {
         AheadOfAFriend x = new AheadOfAFriend();
         for (int i = 0; i < people; i++) {
-            x.person(i == 2 ? 3 : 0, i);
+            x.person(i == 0 ? 5 : i == 2 ? 3 : 0, i);
         }
+        // Who is first leaves at once and comes last, so that places aren't as numbers are.
+        x.minute();
+        x.come(0);
         int z = seed;
         for (int i = 0; i < people; i++) {
             z = z * 1103515245 + 12345;
@@ -270,6 +273,9 @@ public final class ToldTest {
         x.minute();
         x.minute();
         x.person(4, 4);
+        x.set(2, 3, 1);
+        x.set(3, 3, 5);
+        x.set(4, 3, 6);
         x.haste();
         x.come(0);
         x.force(0);
@@ -287,6 +293,8 @@ public final class ToldTest {
         c.due("a new one comes anew", x.person(2, 7), 3);
         c.due("kind", x.told(3, 5), 2);
         c.due("likes", x.told(3, 2), 0);
+        c.due("gifts", x.told(3, 3), 0);
+        c.due("served", x.told(3, 4), 0);
         c.due("line", Check.line(x), 1234);
     }
 

@@ -33,8 +33,13 @@ public final class HostTest {
             c.due("behind it", x.cell(s, 10 * (s + 1), 5), -12);
         }
         c.due("item", item(x, 0, 0, 9), 5);
+        for (int i = 0; i < 10; i++) {
+            x.cell(0, i, 7);
+        }
         c.due("anew", x.sheet(0, 0, 10), 1);
-        c.due("all 0", item(x, 0, 0, 9), 0);
+        for (int i = 0; i < 10; i++) {
+            c.due("all 0", item(x, 0, 0, i), 0);
+        }
         c.due("of none", x.sheet(0, 2, 0), 1);
         c.due("of none", x.cell(0, 0, 0), -12);
         c.due("missing", x.sheet(0, -1, -99), 1);

@@ -20,6 +20,20 @@ final class Check {
         due(what, so ? 1 : 0, 1);
     }
 
+    /** A call with one of its numbers left open. */
+    interface Call {
+        long of(int v);
+    }
+
+    /** What is outside is refused, right beside both ends and far out; then the least and the most are taken. */
+    void ends(String call, Call f, long refusal, int least, long dueLeast, int most, long dueMost) {
+        for (int v : new int[] {least - 1, most + 1, Integer.MIN_VALUE, Integer.MAX_VALUE}) {
+            due(call + ", v = " + v, f.of(v), refusal);
+        }
+        due(call + ", v = " + least, f.of(least), dueLeast);
+        due(call + ", v = " + most, f.of(most), dueMost);
+    }
+
     void end() {
         System.out.println(looked + " answers looked at, " + wrong + " wrong");
         if (wrong != 0) {
@@ -39,6 +53,34 @@ final class Check {
     static int textOf(AheadOfAFriend x, String s) {
         feedAll(x, s);
         return x.text();
+    }
+
+    /** CITIZENS of NUMBER 0 (LASTS 3, IRKS 1 by TEXT 0), each of whom likes whom the bits say. */
+    static AheadOfAFriend citizens(int... likes) {
+        AheadOfAFriend x = new AheadOfAFriend();
+        for (int i = 0; i < likes.length; i++) {
+            x.person(0, 0);
+        }
+        for (int i = 0; i < likes.length; i++) {
+            x.set(2, i, likes[i]);
+        }
+        return x;
+    }
+
+    /** Who is first leaves in one MINUTE, which is taken back. */
+    static void send(AheadOfAFriend x) {
+        int minute = x.count(2);
+        x.set(0, 0, 0);
+        x.set(4, x.first(0), 40);
+        x.minute();
+        x.set(0, 0, minute);
+    }
+
+    static void lay(AheadOfAFriend x, int sheet, int sort, int... items) {
+        x.sheet(sheet, sort, items.length);
+        for (int i = 0; i < items.length; i++) {
+            x.cell(sheet, i, items[i]);
+        }
     }
 
     /** THE LINE as digits; 0: nobody. */

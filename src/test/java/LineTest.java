@@ -12,21 +12,9 @@ public final class LineTest {
         c.end();
     }
 
-    /** CITIZENS of lasts 3, each of whom likes whom the bits say. */
-    private static AheadOfAFriend citizens(int... likes) {
-        AheadOfAFriend x = new AheadOfAFriend();
-        for (int i = 0; i < likes.length; i++) {
-            x.person(0, 0);
-        }
-        for (int i = 0; i < likes.length; i++) {
-            x.set(2, i, likes[i]);
-        }
-        return x;
-    }
-
     private static void first(Check c) {
         c.promise("8 first");
-        AheadOfAFriend x = citizens(0, 0);
+        AheadOfAFriend x = Check.citizens(0, 0);
         int[] due = {0, 1, -1, -1, -1};
         for (int p = 0; p < 5; p++) {
             c.due("first(" + p + ")", x.first(p), due[p]);
@@ -39,7 +27,7 @@ public final class LineTest {
 
     private static void pass(Check c) {
         c.promise("9 pass");
-        AheadOfAFriend x = citizens(4, 4, 0);
+        AheadOfAFriend x = Check.citizens(4, 4, 0);
         c.due("none such", x.pass(3), -2);
         c.due("none such", x.pass(-1), -2);
         c.due("the first", x.pass(0), -3);
@@ -61,14 +49,14 @@ public final class LineTest {
 
     private static void passServed(Check c) {
         c.promise("9 pass, served");
-        AheadOfAFriend x = citizens(6, 5, 3);
+        AheadOfAFriend x = Check.citizens(6, 5, 3);
         c.due("a minute", x.minute(), -1);
         c.due("behind one who is served", x.pass(1), -3);
         c.due("behind one who isn't", x.pass(2), 1);
         c.due("behind one who is served", x.pass(2), -3);
         x.set(4, 0, 0);
         c.due("not served any more", x.pass(2), 0);
-        AheadOfAFriend y = citizens(6, 5, 3);
+        AheadOfAFriend y = Check.citizens(6, 5, 3);
         y.set(4, 1, 5);
         c.due("served, but not at place 0, is passed", y.pass(2), 1);
         c.due("and passes", y.pass(1), 1);
@@ -79,18 +67,18 @@ public final class LineTest {
 
     private static void haste(Check c) {
         c.promise("10 haste");
-        AheadOfAFriend x = citizens(30, 29, 27, 23, 15);
+        AheadOfAFriend x = Check.citizens(30, 29, 27, 23, 15);
         c.due("all pass the first", x.haste(), 4);
         c.due("line", Check.line(x), 23451);
         x.minute();
         c.due("all but the second", x.haste(), 3);
         c.due("line", Check.line(x), 24513);
         c.due("nobody", new AheadOfAFriend().haste(), 0);
-        AheadOfAFriend y = citizens(0, 4, 0);
+        AheadOfAFriend y = Check.citizens(0, 4, 0);
         c.due("one", y.haste(), 1);
         c.due("line", Check.line(y), 132);
         c.due("none", y.haste(), 0);
-        AheadOfAFriend z = citizens(4, 4, 0);
+        AheadOfAFriend z = Check.citizens(4, 4, 0);
         c.due("each once", z.haste(), 1);
         c.due("line", Check.line(z), 132);
         c.due("then once more", z.haste(), 1);
@@ -100,7 +88,7 @@ public final class LineTest {
 
     private static void minute(Check c) {
         c.promise("11 minute");
-        AheadOfAFriend x = citizens(0, 0);
+        AheadOfAFriend x = Check.citizens(0, 0);
         c.due("a minute", x.minute(), -1);
         c.due("served", x.told(0, 4), 1);
         c.due("served of who waits", x.told(1, 4), 0);
@@ -120,13 +108,13 @@ public final class LineTest {
         x.set(0, 0, 999);
         String was = Check.state(x);
         c.due("the last minute", x.minute(), -3);
+        c.holds("nothing changed", was.equals(Check.state(x)));
         x.come(0);
         c.due("the last minute", x.minute(), -3);
         c.due("served", x.told(0, 4), 0);
         x.set(0, 0, 998);
         c.due("the last but one", x.minute(), -1);
         c.due("minute", x.count(2), 999);
-        c.holds("a state was told", was.length() > 0);
     }
 
     private static void lastsIsToldAhead(Check c) {

@@ -16,17 +16,6 @@ public final class OrdersTest {
         c.end();
     }
 
-    private static AheadOfAFriend citizens(int... likes) {
-        AheadOfAFriend x = new AheadOfAFriend();
-        for (int i = 0; i < likes.length; i++) {
-            x.person(0, 0);
-        }
-        for (int i = 0; i < likes.length; i++) {
-            x.set(2, i, likes[i]);
-        }
-        return x;
-    }
-
     private static void all(Check c, AheadOfAFriend x, int... due) {
         for (int what = 0; what < due.length; what++) {
             c.due("orders(" + what + ")", x.orders(what), due[what]);
@@ -46,20 +35,20 @@ public final class OrdersTest {
     private static void orders(Check c) {
         c.promise("13 orders");
         // All of lasts 3, irks 1: WAIT is 3 + 6 in any order.
-        all(c, citizens(0, 0, 0), 1, 9, 123, 9, 0, 7, 0);
+        all(c, Check.citizens(0, 0, 0), 1, 9, 123, 9, 0, 7, 0);
         // 0 lets 2 pass, 1 lets 2 pass: 123, 132, 312.
-        all(c, citizens(4, 4, 0), 3, 9, 123, 9, 0, 4, 0);
-        all(c, citizens(6, 5, 3), 6, 9, 123, 9, 0, 0, 3);
-        all(c, citizens(2, 1, 0), 2, 9, 123, 9, 0, 4, 1);
+        all(c, Check.citizens(4, 4, 0), 3, 9, 123, 9, 0, 4, 0);
+        all(c, Check.citizens(6, 5, 3), 6, 9, 123, 9, 0, 0, 3);
+        all(c, Check.citizens(2, 1, 0), 2, 9, 123, 9, 0, 4, 1);
         // Who is served at place 0 stays there.
-        AheadOfAFriend x = citizens(6, 5, 3);
+        AheadOfAFriend x = Check.citizens(6, 5, 3);
         x.minute();
         all(c, x, 2, 7, 123, 7, 0, 1, 3);
     }
 
     private static void allOrders(Check c) {
         c.promise("13 orders, all");
-        AheadOfAFriend x = citizens(30, 29, 27, 23, 15);
+        AheadOfAFriend x = Check.citizens(30, 29, 27, 23, 15);
         all(c, x, 120, 30, 12345, 30, 0, 0, 10);
         c.due("the far end", x.fewest(54321), 10);
         c.due("the line is as it was", Check.line(x), 12345);
@@ -67,7 +56,7 @@ public final class OrdersTest {
         x.minute();
         c.due("behind the first", x.orders(0), 24);
         // Who was served and isn't first can come first, and then isn't passed there.
-        AheadOfAFriend y = citizens(6, 5, 3);
+        AheadOfAFriend y = Check.citizens(6, 5, 3);
         y.set(4, 2, 1);
         c.due("served, behind", y.orders(0), 6);
         c.due("from 312 on only", walk(y, 2, 2), 0);
@@ -97,6 +86,12 @@ public final class OrdersTest {
         x.set(4, 0, 0);
         x.set(4, 1, 3);
         c.due("served, not first", x.orders(1), 7 * 2 + 11);
+        // In an order that can be come to, the first is who is first there: 1 has one MINUTE to go.
+        AheadOfAFriend y = Check.citizens(2, 0);
+        y.set(4, 1, 2);
+        c.due("as it is", y.orders(1), 3);
+        c.due("served, and first in the best order", y.orders(3), 1);
+        c.due("the best order", y.orders(2), 21);
         x.force(Check.textOf(x, "minds 1;lasts minute;irks minute;"));
         x.set(0, 0, 10);
         // As all is now: LASTS 10, 5, 12; IRKS 10, 20, 10.
@@ -121,7 +116,7 @@ public final class OrdersTest {
         v.set(2, 0, 2);
         all(c, v, 2, 4, 21, 3, 1, 2, 0);
         // Of like ones that of fewest passings, not that of least digits.
-        AheadOfAFriend y = citizens(6, 5, 3);
+        AheadOfAFriend y = Check.citizens(6, 5, 3);
         y.pass(2);
         y.pass(2);
         c.due("best is the line as it is", y.orders(2), 312);
@@ -135,7 +130,7 @@ public final class OrdersTest {
         z.set(2, 1, 4);
         all(c, z, 3, 19, 132, 17, 1, 4, 0);
         // Both passings at once are best, if they can be.
-        AheadOfAFriend w = citizens(0, 0, 0, 0);
+        AheadOfAFriend w = Check.citizens(0, 0, 0, 0);
         w.force(Check.textOf(w, "minds not theirs - number = 1;lasts 3 + 5 * (number = 1 or number = 3);irks 1;"));
         for (int i = 0; i < 4; i++) {
             w.set(1, i, i + 1);
@@ -145,7 +140,7 @@ public final class OrdersTest {
 
     private static void walls(Check c) {
         c.promise("13 orders, WALLS, RINGS");
-        AheadOfAFriend x = citizens(8, 0, 0, 0);
+        AheadOfAFriend x = Check.citizens(8, 0, 0, 0);
         // 0 would let 3 pass, but 3 never comes behind it.
         c.due("walls", x.orders(5), 15);
         c.due("rings", x.orders(6), 0);
@@ -177,20 +172,20 @@ public final class OrdersTest {
         c.due("nobody", n.fewest(1), -1);
         c.due("fewest(-1)", n.fewest(-1), -2);
         c.due("fewest(min)", n.fewest(Integer.MIN_VALUE), -2);
-        AheadOfAFriend x = citizens(4, 4, 0);
+        AheadOfAFriend x = Check.citizens(4, 4, 0);
         int[][] due = {{123, 0}, {132, 1}, {312, 2}, {213, -1}, {321, -1}, {12, -1}, {0, -1}, {1234, -1}, {122, -1}, {Integer.MAX_VALUE, -1}};
         for (int[] d : due) {
             c.due("fewest(" + d[0] + ")", x.fewest(d[0]), d[1]);
         }
         c.due("the line is as it was", Check.line(x), 123);
-        AheadOfAFriend y = citizens(6, 5, 3);
+        AheadOfAFriend y = Check.citizens(6, 5, 3);
         c.due("fewest(321)", y.fewest(321), 3);
         c.due("fewest(231)", y.fewest(231), 2);
     }
 
     private static void ahead(Check c) {
         c.promise("15 ahead");
-        AheadOfAFriend x = citizens(4, 4, 0);
+        AheadOfAFriend x = Check.citizens(4, 4, 0);
         c.due("ahead(0, 0)", x.ahead(0, 0), 0);
         c.due("ahead(0, 1)", x.ahead(0, 1), 0);
         c.due("ahead(1, 0)", x.ahead(1, 0), 1);
@@ -210,33 +205,37 @@ public final class OrdersTest {
         }
         c.due("none such, though nobody would be", y.ahead(0, 3), -2);
         // 2 can't pass 1, but 1 can leave 0 behind, so 0 is passed by 2 behind that: places are won by others' passings too.
-        AheadOfAFriend z = citizens(6, 0, 0);
+        AheadOfAFriend z = Check.citizens(6, 0, 0);
         c.due("ahead(2, 0)", z.ahead(2, 0), 1);
         c.due("ahead(2, 1)", z.ahead(2, 1), 2);
     }
 
     private static void befriend(Check c) {
         c.promise("15 ahead, BEFRIEND");
-        AheadOfAFriend x = citizens(4, 0, 0);
+        AheadOfAFriend x = Check.citizens(4, 0, 0);
         c.due("were 1 to like 2", x.ahead(2, 2), 1);
         c.due("the likes are as they were", x.told(1, 2), 0);
         c.due("were 0 to like 1", x.ahead(1, 2), 0);
         c.due("the first needs none", x.ahead(0, 2), -1);
-        AheadOfAFriend y = citizens(0, 0, 0);
+        AheadOfAFriend y = Check.citizens(0, 0, 0);
         c.due("0 isn't right ahead", y.ahead(2, 2), 1);
         AheadOfAFriend s = new AheadOfAFriend();
         s.person(5, 0);
         s.person(0, 0);
         c.due("a stranger is no friend", s.ahead(1, 2), -1);
         // Either of 0 and 1 wins one place for 3 (2 lets pass already): the least number.
-        AheadOfAFriend z = citizens(2, 1, 8, 0);
+        AheadOfAFriend z = Check.citizens(2, 1, 8, 0);
         c.due("ahead(3, 0)", z.ahead(3, 0), 2);
         c.due("of like ones the least number", z.ahead(3, 2), 0);
         // Were 0 to like 2, nothing is won; were 1 to, all.
-        AheadOfAFriend w = citizens(4, 0, 0);
+        AheadOfAFriend w = Check.citizens(4, 0, 0);
         c.due("the one by whom it is least", w.ahead(2, 2), 1);
+        // Were 1 to like 3, 3 comes to place 2 (0 2 3 1); were 2 to, to place 1 (1 3 0 2): the one by whom it is least.
+        AheadOfAFriend t = Check.citizens(10, 4, 0, 0);
+        c.due("ahead(3, 0)", t.ahead(3, 0), 3);
+        c.due("not the first who helps", t.ahead(3, 2), 2);
         // Who would like one then, but by the text minds it more.
-        AheadOfAFriend v = citizens(0, 0);
+        AheadOfAFriend v = Check.citizens(0, 0);
         v.force(Check.textOf(v, "minds liked;lasts 1;irks 1;"));
         c.due("ahead(1, 0)", v.ahead(1, 0), 0);
         c.due("none would help", v.ahead(1, 2), -1);
@@ -251,7 +250,7 @@ public final class OrdersTest {
 
     private static void run(Check c) {
         c.promise("16 run");
-        AheadOfAFriend x = citizens(0, 0);
+        AheadOfAFriend x = Check.citizens(0, 0);
         x.set(0, 0, 998);
         int[][] due = {{0, 2, 0, -1, -1}, {2, 2, 0, -1, -1}, {3, 1, 1, 2, -1}, {5, 1, 1, 2, -1}, {6, 0, -1, 2, 5}, {60, 0, -1, 2, 5}};
         for (int[] d : due) {
@@ -268,7 +267,7 @@ public final class OrdersTest {
         x.minute();
         c.due("not in the line", x.run(10, 10), -1);
         // In thought MINUTE may pass 999.
-        AheadOfAFriend y = citizens(0, 0);
+        AheadOfAFriend y = Check.citizens(0, 0);
         y.force(Check.textOf(y, "minds 0;lasts 1 + 9 * (1000 < minute);irks 0;"));
         y.set(0, 0, 999);
         c.due("999", y.run(60, 10), 0);
@@ -280,7 +279,7 @@ public final class OrdersTest {
 
     private static void runRefuses(Check c) {
         c.promise("16 run, refusals");
-        AheadOfAFriend x = citizens(0, 0);
+        AheadOfAFriend x = Check.citizens(0, 0);
         int[][] bad = {
             {-1, 0}, {61, 0}, {0, -1}, {0, 2}, {0, 9}, {0, 12}, {0, 15}, {0, Integer.MAX_VALUE}, {0, Integer.MIN_VALUE},
             {Integer.MIN_VALUE, 1}, {Integer.MAX_VALUE, 1}};

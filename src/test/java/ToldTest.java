@@ -17,13 +17,6 @@ public final class ToldTest {
         c.end();
     }
 
-    private static void lay(AheadOfAFriend x, int sheet, int sort, int... items) {
-        x.sheet(sheet, sort, items.length);
-        for (int i = 0; i < items.length; i++) {
-            x.cell(sheet, i, items[i]);
-        }
-    }
-
     private static void all(Check c, AheadOfAFriend x, int sheet, int one, int... due) {
         for (int what = 0; what < due.length; what++) {
             c.due("tells(" + sheet + ", " + one + ", " + what + ")", x.tells(sheet, one, what), due[what]);
@@ -36,20 +29,20 @@ public final class ToldTest {
         x.person(0, 1);
         x.person(0, 2);
         // LASTS 4 and 5: who is first behind 1, 2, .. is 0 0 0 1 1 1 1 1 -1.
-        lay(x, 0, 0, 0, 0, 0, 1, 1, 1, 1, 1, -1, -1);
+        Check.lay(x, 0, 0, 0, 0, 0, 1, 1, 1, 1, 1, -1, -1);
         // 0: a HATED of number 1 lasts 3, a CLERK 2, a WIDOW 6: only a CITIZEN; NUMBER 1 alone; SERVED 0 alone.
         all(c, x, 0, 0, -1, 1, 2, 1, 0, 1);
         all(c, x, 0, 1, -1, 1, 4, 1, 0, 1);
-        lay(x, 1, 1, 0, 0, 0, 1, 1, 0);
+        Check.lay(x, 1, 1, 0, 0, 0, 1, 1, 0);
         // With number 1 the SHEET is otherwise at 5; nothing makes it so.
         all(c, x, 1, 0, 5, 0, 0, 0, -1, 0);
-        lay(x, 2, 2, 0, 0);
+        Check.lay(x, 2, 2, 0, 0);
         // Two minutes: LASTS of 0 must be 3 or more.
         all(c, x, 2, 0, -1, 0b011011, 1023, 2, 0, 1);
         x.set(1, 0, 0);
         // A HATED of number 0 lasts 1; LASTS 3 is CITIZEN's.
         all(c, x, 2, 0, -1, 0b001011, 1023, 1, 0, 1);
-        lay(x, 3, 2, 1, 1, 1);
+        Check.lay(x, 3, 2, 1, 1, 1);
         // 0 must leave in the first minute: CLERK, HATED, STRANGER; SERVED 2 to 40.
         all(c, x, 3, 0, 0, 0b110100, 0, 39, 2, 0);
         // Whatever 1 is, 0 is still first.
@@ -71,23 +64,23 @@ public final class ToldTest {
         Check.textOf(x, "minds 0;lasts 3;irks 0;");
         Check.textOf(x, "minds 0;lasts 1+(minute<1000)+(minute<1001);irks 0;");
         x.set(0, 0, 999);
-        lay(x, 0, 0, 0, 0, -1);
+        Check.lay(x, 0, 0, 0, 0, -1);
         c.due("texts of lasts 3", x.tells(0, 0, 5), 0b0101);
-        lay(x, 0, 0, 0, -1, -1);
+        Check.lay(x, 0, 0, 0, -1, -1);
         c.due("texts of lasts 2, and one that lasts 3 in minute 999 and 2 in 1000", x.tells(0, 0, 5), 0b1010);
         c.due("the rule is as it was", x.count(5), 0);
         // Of 255, as of 0xff, a SHEET of bytes makes -1, one of shorts doesn't.
-        lay(x, 1, 0, 0, 0, 255);
+        Check.lay(x, 1, 0, 0, 0, 255);
         c.due("bytes", x.tells(1, 0, 0), -1);
-        lay(x, 1, 1, 0, 0, 255);
+        Check.lay(x, 1, 1, 0, 0, 255);
         c.due("shorts", x.tells(1, 0, 0), 2);
-        lay(x, 1, 1, 0, 0, 0xffff);
+        Check.lay(x, 1, 1, 0, 0, 0xffff);
         c.due("shorts", x.tells(1, 0, 0), -1);
         int[] longest = new int[30];
         for (int i = 2; i < 30; i++) {
             longest[i] = -1;
         }
-        lay(x, 2, 2, longest);
+        Check.lay(x, 2, 2, longest);
         c.due("thirty", x.tells(2, 0, 0), -1);
     }
 

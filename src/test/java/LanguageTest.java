@@ -10,7 +10,7 @@ import java.util.TreeSet;
 import java.util.regex.Matcher;
 import java.util.regex.Pattern;
 
-/** The public face of the document, and those rules of LANGUAGE.md that can be looked at from outside. */
+/** The public face of the document, and the words that LANGUAGE.md leaves out; RulesTest looks at its other rules. */
 public final class LanguageTest {
     private static final String[] FACE = {
         "int set(int, int, int)", "int person(int, int)", "int told(int, int)", "int feed(int)", "int text()", "int force(int)",
@@ -25,7 +25,6 @@ public final class LanguageTest {
         constants(c);
         classes(c);
         source(c);
-        methodsAreShort(c);
         c.end();
     }
 
@@ -79,19 +78,11 @@ public final class LanguageTest {
     }
 
     private static void classes(Check c) {
-        c.promise("rules 2, 5 and 11, classes");
-        Class<?>[] inside = AheadOfAFriend.class.getDeclaredClasses();
-        c.holds("twelve classes at most", inside.length < 12);
-        for (Class<?> k : inside) {
+        c.promise("rules 1, 2 and 5, classes");
+        for (Class<?> k : AheadOfAFriend.class.getDeclaredClasses()) {
             c.holds(k + " is static, and not public", Modifier.isStatic(k.getModifiers()) && (k.getModifiers() & (Modifier.PUBLIC | Modifier.PROTECTED)) == 0);
-            int fields = 0;
             for (Field f : k.getDeclaredFields()) {
-                fields += Modifier.isStatic(f.getModifiers()) ? 0 : 1;
                 c.holds(f + " is final if static", !Modifier.isStatic(f.getModifiers()) || Modifier.isFinal(f.getModifiers()));
-            }
-            c.holds(k + " has some twenty fields at most", fields <= 20);
-            for (Method m : k.getDeclaredMethods()) {
-                c.holds(m + " has seven parameters at most", m.getParameterCount() <= 7);
             }
         }
     }
@@ -124,21 +115,6 @@ public final class LanguageTest {
         }
         for (String k : made) {
             c.holds("own classes and rows are made alone: " + k, k.equals("int") || k.equals("boolean") || s.contains("class " + k + " {"));
-        }
-    }
-
-    private static void methodsAreShort(Check c) throws Exception {
-        c.promise("rule 11, sixty lines");
-        int from = -1;
-        String[] lines = bare().split("\n");
-        for (int i = 0; i < lines.length; i++) {
-            if (lines[i].matches("( {4}| {8})[A-Za-z].*\\) \\{")) {
-                from = i;
-            }
-            if (from >= 0 && lines[i].matches("( {4}| {8})\\}")) {
-                c.holds("short: " + lines[from].trim(), i - from <= 60);
-                from = -1;
-            }
         }
     }
 }
